@@ -5,7 +5,7 @@ import java.util.function.LongSupplier;
 
 /** Runs of calls, the same ones at each test, on the program and on ReferenceStudio. */
 public final class RandomRunsTest {
-    private static final int RUNS = 600;
+    private static final int RUNS = 300;
     private static final int CALLS = 512;
 
     private final Random random;
