@@ -262,7 +262,7 @@ public final class StudioAirtime {
             throw new IllegalArgumentException("what is not 0 to 7");
         }
         air.play(now);
-        return weekNumber(what);
+        return countOf(what);
     }
 
     public int setting(int setting) throws IndexOutOfBoundsException {
@@ -331,7 +331,7 @@ public final class StudioAirtime {
         air.play(now);
         Hash hash = new Hash();
         for (int what = 0; what <= 7; what++) {
-            hash.take(weekNumber(what));
+            hash.take(countOf(what));
         }
         for (int setting = 0; setting < SETTINGS; setting++) {
             hash.take(now.settings[setting]);
@@ -419,7 +419,7 @@ public final class StudioAirtime {
         }
     }
 
-    private int weekNumber(int what) {
+    private int countOf(int what) {
         switch (what) {
             case 0: return now.week;
             case 1: return now.size;
